@@ -77,9 +77,6 @@ public final class Gaugerhall {
     public int run(int vessel, int wash, int washStrength, int volume, int strength)
             throws IndexOutOfBoundsException, IllegalArgumentException, IllegalStateException {
         Vessel to = vesselOf(vessel);
-        if (to == null) {
-            throw new IndexOutOfBoundsException("no such vessel");
-        }
         if (!isWithin(wash, 1, MOST_VOLUME) || !isWithin(washStrength, 1, MOST_WASH_STRENGTH)) {
             throw new IllegalArgumentException("wash or washStrength is out of range");
         }
@@ -104,9 +101,6 @@ public final class Gaugerhall {
             throws IndexOutOfBoundsException, IllegalArgumentException, IllegalStateException {
         Vessel from = vesselOf(vessel);
         Vessel to = vesselOf(other);
-        if (from == null || to == null) {
-            throw new IndexOutOfBoundsException("no such vessel");
-        }
         if (vessel == other || volume < 1) {
             throw new IllegalArgumentException("both are the same, or volume is below 1");
         }
@@ -120,9 +114,6 @@ public final class Gaugerhall {
     public int dip(int vessel, int volume, int strength)
             throws IndexOutOfBoundsException, IllegalArgumentException, IllegalStateException {
         Vessel dipped = vesselOf(vessel);
-        if (dipped == null) {
-            throw new IndexOutOfBoundsException("no such vessel");
-        }
         if (!isWithin(volume, 0, dipped.capacity) || !isWithin(strength, 0, MOST_STRENGTH)) {
             throw new IllegalArgumentException("volume or strength is out of range");
         }
@@ -147,9 +138,6 @@ public final class Gaugerhall {
     public int lose(int vessel, int volume, boolean isWitness)
             throws IndexOutOfBoundsException, IllegalArgumentException, IllegalStateException {
         Vessel from = vesselOf(vessel);
-        if (from == null) {
-            throw new IndexOutOfBoundsException("no such vessel");
-        }
         if (volume < 1) {
             throw new IllegalArgumentException("volume is below 1");
         }
@@ -169,9 +157,6 @@ public final class Gaugerhall {
     public int release(int vessel, int volume)
             throws IndexOutOfBoundsException, IllegalArgumentException, IllegalStateException {
         Vessel from = vesselOf(vessel);
-        if (from == null) {
-            throw new IndexOutOfBoundsException("no such vessel");
-        }
         if (volume < 1) {
             throw new IllegalArgumentException("volume is below 1");
         }
@@ -202,9 +187,6 @@ public final class Gaugerhall {
     public int denature(int vessel, int volume)
             throws IndexOutOfBoundsException, IllegalArgumentException, IllegalStateException {
         Vessel from = vesselOf(vessel);
-        if (from == null) {
-            throw new IndexOutOfBoundsException("no such vessel");
-        }
         if (volume < 1) {
             throw new IllegalArgumentException("volume is below 1");
         }
@@ -279,9 +261,6 @@ public final class Gaugerhall {
             throws IndexOutOfBoundsException, IllegalArgumentException, IllegalStateException {
         Vessel from = vesselOf(vessel);
         Vessel to = vesselOf(other);
-        if (from == null || to == null) {
-            throw new IndexOutOfBoundsException("no such vessel");
-        }
         if (volume < 1 || !isWithin(days, 1, MOST_DAYS_AT_ONCE)) {
             throw new IllegalArgumentException("volume is below 1, or days is out of range");
         }
@@ -298,9 +277,6 @@ public final class Gaugerhall {
     public int arrive(int movement, int volume)
             throws IndexOutOfBoundsException, IllegalArgumentException, IllegalStateException {
         Movement arriving = movementOf(movement);
-        if (arriving == null) {
-            throw new IndexOutOfBoundsException("no such movement");
-        }
         if (!isWithin(volume, 0, arriving.volume)) {
             throw new IllegalArgumentException("volume is out of range");
         }
@@ -340,9 +316,6 @@ public final class Gaugerhall {
 
     public int ofVessel(int vessel, int what) throws IndexOutOfBoundsException {
         Vessel asked = vesselOf(vessel);
-        if (asked == null) {
-            throw new IndexOutOfBoundsException("no such vessel");
-        }
         switch (what) {
             case 0: return asked.volume;
             case 1: return asked.drops;
@@ -354,19 +327,12 @@ public final class Gaugerhall {
     }
 
     public int dropsAnew(int vessel) throws IndexOutOfBoundsException {
-        Vessel asked = vesselOf(vessel);
-        if (asked == null) {
-            throw new IndexOutOfBoundsException("no such vessel");
-        }
         // The same calls always give the same drops, so doing them again could find no others.
-        return asked.drops;
+        return vesselOf(vessel).drops;
     }
 
     public int ofMovement(int movement, int what) throws IndexOutOfBoundsException {
         Movement asked = movementOf(movement);
-        if (asked == null) {
-            throw new IndexOutOfBoundsException("no such movement");
-        }
         switch (what) {
             case 0: return asked.state;
             case 1: return asked.volume;
@@ -417,12 +383,18 @@ public final class Gaugerhall {
         return place >= 0 && place < shareRates.length;
     }
 
-    private Vessel vesselOf(int number) {
-        return number < 0 || number >= vessels.size() ? null : vessels.get(number);
+    private Vessel vesselOf(int number) throws IndexOutOfBoundsException {
+        if (number < 0 || number >= vessels.size()) {
+            throw new IndexOutOfBoundsException("no such vessel");
+        }
+        return vessels.get(number);
     }
 
-    private Movement movementOf(int number) {
-        return number < 0 || number >= movements.size() ? null : movements.get(number);
+    private Movement movementOf(int number) throws IndexOutOfBoundsException {
+        if (number < 0 || number >= movements.size()) {
+            throw new IndexOutOfBoundsException("no such movement");
+        }
+        return movements.get(number);
     }
 
     private int dropsInVessels() {

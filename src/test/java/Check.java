@@ -41,13 +41,20 @@ final class Check {
         try {
             refused.on(hall);
         } catch (RuntimeException e) {
-            thrown = e.getClass().getName();
+            thrown = thrower(e);
         }
         if (!thrown.equals(due.getName())) {
             complain(call + " threw " + thrown + ", due is " + due.getName());
             return;
         }
         dueText(call + ", refused, left", Trace.withFuture(scene.make()), Trace.withFuture(hall));
+    }
+
+    /** The exception's name, and where it came from, if the class did not throw it by a throw of its own. */
+    static String thrower(RuntimeException e) {
+        StackTraceElement[] frames = e.getStackTrace();
+        boolean isOwn = frames.length > 0 && frames[0].getClassName().startsWith("Gaugerhall");
+        return isOwn ? e.getClass().getName() : e.getClass().getName() + " of " + (frames.length > 0 ? frames[0] : "?");
     }
 
     static void complain(String text) {

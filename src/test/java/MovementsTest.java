@@ -65,7 +65,7 @@ public final class MovementsTest {
         Check.due("enough by the new rate", 9000, dear.guarantee(17820));
     }
 
-    /** As under way, but the rate is 66 besides, ten times 6.6 as before. */
+    /** As under way, but by a rate of 66, so that the guarantee is below the duty of 17820. */
     private static Gaugerhall dearer() {
         Gaugerhall hall = underWay();
         hall.budget(1, 66, 0);
@@ -314,6 +314,17 @@ public final class MovementsTest {
         int moving = hall.ledger(2);
         hall.pass(1);
         Check.due("what moves has no share", moving, hall.ledger(2));
+
+        int[][] edges = {{1, 369, 271, 99999, 369}, {271, 369, 1, 369, 369}, {250, 400, 1, 399, 399}};
+        for (int[] e : edges) {
+            Gaugerhall edge = new Gaugerhall();
+            edge.vessel(3, 9999);
+            edge.dip(0, e[1], e[2]);
+            edge.shares(3, e[0]);
+            edge.pass(1);
+            Check.due("drops after a share of " + e[0], e[3], edge.ofVessel(0, 1));
+            Check.due("volume after a share of " + e[0], e[4], edge.ofVessel(0, 0));
+        }
     }
 
     private static void whatADayDoesInOrder() {

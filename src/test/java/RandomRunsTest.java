@@ -55,9 +55,9 @@ public final class RandomRunsTest {
             call[call.length - 1] = (int) tell(hall, call);
             return true;
         } catch (IndexOutOfBoundsException | IllegalArgumentException | IllegalStateException e) {
-            String name = e.getClass().getName();
-            boolean isNamed = e.getClass() == IndexOutOfBoundsException.class
-                || e.getClass() == IllegalArgumentException.class || e.getClass() == IllegalStateException.class;
+            String name = Check.thrower(e);
+            boolean isNamed = name.equals(Check.INDEX.getName()) || name.equals(Check.ARGUMENT.getName())
+                || name.equals(Check.STATE.getName());
             Check.due("run " + seed + ": call " + call[0] + " threw " + name, 1, isNamed ? 1 : 0);
             return false;
         }

@@ -161,6 +161,15 @@ public final class VesselsTest {
         halves.dip(1, 4000, 0);
         halves.move(1, 0, 4000);
         Check.due("a strength of two and a half counts as 2", 8000, halves.ofVessel(0, 0));
+
+        int[][] edges = {{33, 303, 66}, {40, 250, 79}, {1, 960, 2}};
+        for (int[] e : edges) {
+            Gaugerhall edge = new Gaugerhall();
+            edge.vessel(0, 9999);
+            edge.dip(0, e[0], 0);
+            edge.run(0, 9999, 300, e[0], e[1]);
+            Check.due(e[0] + " and " + e[0] + ", " + e[1] + " apart", e[2], edge.ofVessel(0, 0));
+        }
     }
 
     private static void runRefuses() {
@@ -281,6 +290,12 @@ public final class VesselsTest {
         small.dip(0, 1, 98);
         Check.due("1 of 99 is not", 1, small.ledger(4));
         Check.due("1 of 99 is MISSING", 1, small.ledger(5));
+        Check.due("strength of a volume of 1", 98, small.ofVessel(0, 2));
+        small.dip(0, 1, 99);
+        Check.due("1 more is found", 101, small.ledger(0));
+        Check.due("EXCUSED, as it was", 1, small.ledger(4));
+        small.lose(0, 1, true);
+        Check.due("1 of a volume of 1 has all its drops", 100, small.ledger(4));
     }
 
     private static void dipThatFindsMore() {
