@@ -1,30 +1,23 @@
 /** What an object answers, as a text, so that two objects can be compared. */
 final class Trace {
+    private interface Asked {
+        int answer(int what);
+    }
+
     private Trace() {
     }
 
     /** All that can be asked; at most 200 calls. */
     static String of(Gaugerhall hall) {
         StringBuilder text = new StringBuilder();
-        text.append("day ").append(hall.day()).append(" ledger");
-        for (int what = 0; what < 8; what++) {
-            text.append(' ').append(hall.ledger(what));
+        text.append("day ").append(hall.day());
+        append(text, " ledger", 8, hall::ledger);
+        append(text, " duty", 6, hall::duty);
+        for (int i = 0; appendIfThere(text, " vessel" + i, 5, hall::ofVessel, i); i++) {
+            text.append(" anew ").append(hall.dropsAnew(i));
         }
-        text.append(" duty");
-        for (int what = 0; what < 6; what++) {
-            text.append(' ').append(hall.duty(what));
-        }
-        for (int i = 0; hasVessel(hall, i); i++) {
-            text.append(" vessel").append(i);
-            for (int what = 0; what < 5; what++) {
-                text.append(' ').append(hall.ofVessel(i, what));
-            }
-        }
-        for (int i = 0; hasMovement(hall, i); i++) {
-            text.append(" movement").append(i);
-            for (int what = 0; what < 4; what++) {
-                text.append(' ').append(hall.ofMovement(i, what));
-            }
+        for (int i = 0; appendIfThere(text, " movement" + i, 4, hall::ofMovement, i); i++) {
+            text.append(';');
         }
         return text.toString();
     }
@@ -36,28 +29,30 @@ final class Trace {
         for (int days : new int[] {1, 2, 27, 60, 10}) {
             text.append(" pass ").append(passed(hall, days)).append(" rate ").append(hall.duty(1));
         }
-        for (int i = 0; hasVessel(hall, i); i++) {
-            text.append(" vessel").append(i).append(' ').append(hall.ofVessel(i, 1));
-        }
+        append(text, " ledger", 8, hall::ledger);
         return text.toString();
     }
 
-    private static boolean hasVessel(Gaugerhall hall, int number) {
-        try {
-            hall.ofVessel(number, 0);
-            return true;
-        } catch (IndexOutOfBoundsException e) {
-            return false;
+    private interface AskedOf {
+        int answer(int number, int what);
+    }
+
+    private static void append(StringBuilder text, String name, int answers, Asked asked) {
+        text.append(name);
+        for (int what = 0; what < answers; what++) {
+            text.append(' ').append(asked.answer(what));
         }
     }
 
-    private static boolean hasMovement(Gaugerhall hall, int number) {
+    private static boolean appendIfThere(StringBuilder text, String name, int answers, AskedOf asked, int number) {
+        StringBuilder one = new StringBuilder();
         try {
-            hall.ofMovement(number, 0);
-            return true;
+            append(one, name, answers, what -> asked.answer(number, what));
         } catch (IndexOutOfBoundsException e) {
             return false;
         }
+        text.append(one);
+        return true;
     }
 
     private static int exported(Gaugerhall hall, int drops) {
